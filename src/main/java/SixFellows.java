@@ -165,7 +165,7 @@ public final class SixFellows {
             case 2: return present.needs[task];
             case 3: return present.pays[task];
             case 4: return present.helpOfAll(task, awake, spoilt);
-            case 5: return present.isMet(task, awake, spoilt) ? 1 : 0;
+            case 5: return present.isMet(task, awake) ? 1 : 0;
             case 6: return present.helperSet(task, awake, spoilt);
             default: return tell(BEYOND);
         }
@@ -229,7 +229,7 @@ public final class SixFellows {
         }
         trial.become(present);
         for (int n = 0; n <= MOST_HOURS; n++) {
-            if (trial.isMetBy(task, trial.awakeSet())) {
+            if (trial.isMet(task, trial.awakeSet())) {
                 return n;
             }
             trial.letHoursGo(1);
@@ -332,7 +332,7 @@ public final class SixFellows {
         int awake = present.awakeSet();
         int smallest = 0;
         for (int set = 1; set <= awake; set++) {
-            if ((set & awake) != set || !present.isMetBy(task, set)) {
+            if ((set & awake) != set || !present.isMet(task, set)) {
                 continue;
             }
             if (smallest == 0 || Integer.bitCount(set) < Integer.bitCount(smallest)) {
@@ -379,7 +379,7 @@ public final class SixFellows {
         trial.become(present);
         for (int skill = 1; skill <= MOST_SKILL; skill++) {
             trial.skills[fellow] = skill;
-            if (trial.isMetBy(task, trial.awakeSet())) {
+            if (trial.isMet(task, trial.awakeSet())) {
                 return skill;
             }
         }
@@ -854,19 +854,15 @@ public final class SixFellows {
             return set;
         }
 
-        boolean isMet(int task, int awake, int spoilt) {
-            return helpOfAll(task, awake, spoilt) >= needs[task];
-        }
-
-        boolean isMetBy(int task, int awake) {
-            return isMet(task, awake, spoiltSet(awake));
+        boolean isMet(int task, int awake) {
+            return helpOfAll(task, awake, spoiltSet(awake)) >= needs[task];
         }
 
         int metSet(int awake) {
             int spoilt = spoiltSet(awake);
             int set = 0;
             for (int i = 0; i < taskCount; i++) {
-                if (isMet(i, awake, spoilt)) {
+                if (helpOfAll(i, awake, spoilt) >= needs[i]) {
                     set |= 1 << i;
                 }
             }

@@ -8,6 +8,8 @@ final class TextTest {
         itemsComeToWhatThereIs();
         blanks();
         numbers();
+        bytesOfAnEarlierText();
+        wordsWithAnotherFirstLetter();
         faultsOfFellows();
         faultsOfTasks();
         faultsOfSleep();
@@ -138,6 +140,32 @@ final class TextTest {
         Check.due("110 digits", Check.tell(x, "fellow at " + "9".repeat(110)), -1 - 10);
         Check.due("110 zeros", Check.tell(x, "fellow at " + "0".repeat(110)), 1);
         Check.due("a sign ahead", Check.tell(x, "fellow at -1"), -1 - 10);
+    }
+
+    private static void bytesOfAnEarlierText() {
+        SixFellows x = new SixFellows();
+        Check.due("letters", Check.tell(x, "z".repeat(120)), -1);
+        Check.due("a word at the end", Check.tell(x, "fellow at 1 asleep"), 1);
+        Check.due("digits", Check.tell(x, "9".repeat(120)), -1);
+        Check.due("a number at the end", Check.tell(x, "fellow at 1"), 1);
+        Check.due("a word at the end of a full tape", Check.tell(x, "fellow at 1" + " ".repeat(103) + "asleep"), 1);
+        Check.due("a number at the end of a full tape", Check.tell(x, "fellow at" + " ".repeat(109) + "30"), 1);
+        Check.due("blanks at the end of a full tape", Check.tell(x, "wake 0" + " ".repeat(114)), 1);
+        Check.due("a sign at the end of a full tape", Check.tell(x, "wake 0" + " ".repeat(113) + ";"), -1 - 120);
+        Check.due("asleep", x.now(3), 0b0100);
+    }
+
+    private static void wordsWithAnotherFirstLetter() {
+        fault("gunner at 1", 0);
+        fault("yellow at 1", 0);
+        fault("runner it 1", 7);
+        fault("runner at 1 does 2", 12);
+        fault("runner at 1 Skill 2", 12);
+        fault("mask run at 1 need 1 pay 1", 0);
+        fault("task fun at 1 need 1 pay 1", 5);
+        fault("task run at 1 feed 1 pay 1", 14);
+        fault("task run at 1 need 1 say 1", 21);
+        fault("bake 0", 0);
     }
 
     private static void fault(String text, int place) {

@@ -128,6 +128,8 @@ final class WhereWhomTest {
         Check.due("each of two by itself lets no more be earned", two.spoils(), 0);
         SixFellows each = Check.road("runner at 10; hunter at 14; hatted at 12; task run at 10 need 15 pay 9; task freeze at 12 need 24 pay 5");
         Check.due("the spoiler", each.spoils(), 0b100);
+        SixFellows both = Check.road("blower at 2; hunter at 0; runner at 30; hatted at 28; task shoot at 0 need 18 pay 9; task run at 30 need 15 pay 9");
+        Check.due("two spoilers, the first of all among them", both.spoils(), 0b1001);
         Check.due("no findings", x.status(-1), 0);
     }
 
@@ -150,6 +152,8 @@ final class WhereWhomTest {
         x.task(1, 5, 57, 1);
         Check.due("9 at most", x.learn(), Check.NONE);
         Check.due("NONE is counted", x.status(3), 3);
+        SixFellows alike = Check.road("fellow at 5; fellow at 5; task carry at 5 need 14 pay 3");
+        Check.due("of several the least: the first of all", alike.learn(), 0);
         Check.due("nobody learns", new SixFellows().learn(), Check.NONE);
     }
 
