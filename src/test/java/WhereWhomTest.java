@@ -154,6 +154,12 @@ final class WhereWhomTest {
         Check.due("NONE is counted", x.status(3), 3);
         SixFellows alike = Check.road("fellow at 5; fellow at 5; task carry at 5 need 14 pay 3");
         Check.due("of several the least: the first of all", alike.learn(), 0);
+        SixFellows seven = new SixFellows();
+        for (int i = 0; i < 7; i++) {
+            seven.fellow(0, i == 6 ? 24 : 0);
+        }
+        seven.task(4, 24, 8, 1);
+        Check.due("the last of seven", seven.learn(), 6);
         Check.due("nobody learns", new SixFellows().learn(), Check.NONE);
     }
 
