@@ -8,17 +8,23 @@ final class Check {
     static final int MISSING = -1000000006;
     static final int SIZE = -1000000007;
 
+    private static String topic = "";
     private static int asked = 0;
     private static int wrong = 0;
 
     private Check() {
     }
 
+    /** Told ahead of each wrong answer from here on. */
+    static void about(String newTopic) {
+        topic = newTopic + ": ";
+    }
+
     static void due(String call, long got, long want) {
         asked++;
         if (got != want) {
             wrong++;
-            System.out.println(call + " answered " + got + ", due is " + want);
+            System.out.println(topic + call + " answered " + got + ", due is " + want);
         }
     }
 
@@ -33,9 +39,15 @@ final class Check {
         }
     }
 
+    /** By fours, as an object is good for 512 calls only. */
     static void feed(SixFellows x, String text) {
-        for (int i = 0; i < text.length(); i++) {
-            x.feed(text.charAt(i), 1);
+        for (int i = 0; i < text.length(); i += 4) {
+            int n = Math.min(4, text.length() - i);
+            int word = 0;
+            for (int k = i; k < i + n; k++) {
+                word = word << 8 | text.charAt(k);
+            }
+            x.feed(word, n);
         }
     }
 

@@ -9,6 +9,7 @@ import java.util.Random;
 final class ModelTest {
     private static final int RUNS = 300;
     private static final int CALLS = 512;
+    private static final int STATUS_CALLS = 8;
     private static final int[] ODD = {-1, -2, 31, 61, 100, 128, 1000, Integer.MIN_VALUE, Integer.MAX_VALUE};
     private static final String[] PARTS = {"fellow", "runner", "hunter", "blower", "legged", "hatted", "at", "goes", "skill",
         "asleep", "task", "run", "shoot", "blow", "freeze", "carry", "need", "pay", "wake", "sleep", ";", ";", "0", "1", "3",
@@ -37,9 +38,9 @@ final class ModelTest {
         PlainModel model = new PlainModel();
         int odds = run % 3 == 0 ? 4 : 25;
         int made = 0;
-        while (made < CALLS - 40) {
-            if (random.nextInt(12) == 0) {
-                String text = random.nextInt(3) == 0 ? jumble(random) : story(random);
+        while (made < CALLS - STATUS_CALLS) {
+            String text = random.nextInt(3) == 0 ? jumble(random) : story(random);
+            if (random.nextInt(12) == 0 && made + text.length() < CALLS - STATUS_CALLS) {
                 for (int i = 0; i < text.length(); i++) {
                     both(run, x, model, "feed", text.charAt(i), 1);
                     made++;
