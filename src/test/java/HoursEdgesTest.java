@@ -23,7 +23,12 @@ final class HoursEdgesTest {
 
     /** One goes from mile 0 to the end of the road, where a task is. */
     private static SixFellows long30() {
-        return Check.road("fellow at 0 goes 30; task run at 30 need 1 pay 99; task run at 0 need 1 pay 5");
+        SixFellows x = new SixFellows();
+        x.fellow(0, 0);
+        x.set(0, 2, 30);
+        x.task(0, 30, 1, 99);
+        x.task(0, 0, 1, 5);
+        return x;
     }
 
     private static void hoursGo() {
@@ -161,6 +166,13 @@ final class HoursEdgesTest {
         Check.due("from the first of seven: now(5)", x.now(5), 30);
         x.set(6, 4, 1);
         Check.due("those asleep, too: now(5)", x.now(5), 30);
+        for (int i = 0; i < 7; i++) {
+            SixFellows y = Roads.seven(0, 15);
+            y.set(i, 1, 2);
+            Check.due("from " + i + " on: now(5)", y.now(5), 13);
+            y.set(i, 1, 29);
+            Check.due("up to " + i + ": now(5)", y.now(5), 14);
+        }
     }
 
     private static void nowBeyond() {

@@ -395,6 +395,9 @@ final class TextEdgesTest {
             + " 9th: its own),");
         fault("fellow at 3 goes 4 skill 12345", 25);
         fault("fellow at 3 walks 4", 12);
+        anotherLetter("fellow at 3 goes 4 skill 5 asleep");
+        anotherLetter("task freeze at 3 need 1 pay 1");
+        anotherLetter("sleep 0; wake 1; task run at 3 need 1 pay 1; runner at 3");
         fault("fellow at 3 ?", 12);
         fault("fellow at 3\u00ff", 11);
         fault("fellow at \u0080", 10);
@@ -414,6 +417,19 @@ final class TextEdgesTest {
         Check.due("a task for seven", Check.tell(seven, "task run at 3 need 1 pay 1"), 1);
         SixFellows eight = Check.road("task run at 0 need 1 pay 0;".repeat(8));
         Check.due("a fellow for eight", Check.tell(eight, "fellow at 3"), 1);
+    }
+
+    /** A text that stands, but for each of its letters, one after the other: its word is another one then. */
+    private static void anotherLetter(String text) {
+        takes(text, text.split(";").length);
+        int word = 0;
+        for (int i = 0; i < text.length(); i++) {
+            if (!Character.isLetter(text.charAt(i))) {
+                word = i + 1;
+            } else {
+                fault(text.substring(0, i) + 'q' + text.substring(i + 1), word);
+            }
+        }
     }
 
     private static void faultAtTheEnd() {
