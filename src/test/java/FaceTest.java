@@ -17,12 +17,49 @@ final class FaceTest {
     private static final Path DOCUMENT = Path.of("../shared/DOC.md");
 
     public static void main(String[] args) throws IOException {
+        partsOfTheDocument();
         face();
+        sectionsOfTheFace();
         membersAreHidden();
         innerClasses();
         wordsOfTheSource();
         rowsAreMadeOnce();
         Check.end();
+    }
+
+    /** A part that no test knows would be told here. */
+    private static void partsOfTheDocument() throws IOException {
+        List<String> parts = new ArrayList<>(List.of("What it is", "The public face", "Terms"));
+        parts.add("Promise 1: A new object");
+        Matcher calls = Pattern.compile("(?m)^    public \\w+ (\\w+)\\(.*\\);$").matcher(Files.readString(DOCUMENT));
+        for (int number = 2; calls.find(); number++) {
+            parts.add("Promise " + number + ": " + calls.group(1));
+        }
+        parts.add("Not promised");
+        List<String> there = new ArrayList<>();
+        Matcher headings = Pattern.compile("(?m)^## (.*)$").matcher(Files.readString(DOCUMENT));
+        while (headings.find()) {
+            there.add(headings.group(1));
+        }
+        Check.due("promises", there.size() - 4, 43);
+        Check.holds("the parts of the document are " + parts + ", not " + there, there.equals(parts));
+    }
+
+    /** The source's calls stand in the document's order, and ahead of them what the interface says there. */
+    private static void sectionsOfTheFace() throws IOException {
+        List<String> promised = new ArrayList<>();
+        Matcher sections = Pattern.compile("Ahead of the calls (.*) the interface says: (---- .*)\\.").matcher(Files.readString(DOCUMENT));
+        while (sections.find()) {
+            promised.add(sections.group(2));
+            promised.addAll(List.of(sections.group(1).replace("`", "").split(", ")));
+        }
+        List<String> there = new ArrayList<>();
+        Matcher lines = Pattern.compile("(?m)^    (?:// (---- .*)|public (?:int|long) (\\w+)\\(.*)$").matcher(Files.readString(SOURCE));
+        while (lines.find() && there.size() < promised.size()) {
+            there.add(lines.group(1) != null ? lines.group(1) : lines.group(2));
+        }
+        Check.due("sections and calls promised", promised.size(), 8 + 42);
+        Check.holds("the source says " + promised + ", not " + there, there.equals(promised));
     }
 
     private static void face() throws IOException {
