@@ -117,6 +117,9 @@ final class RoomTest {
     }
 
     private static void changes() throws IllegalAccessException {
+        again(Roads.full(), "set(6, 4, 0)", x -> x.set(6, 4, 0));
+        again(Roads.full(), "turn(6, 3)", x -> x.turn(6, 3));
+        again(Roads.full(), "write(2, 5, 0)", x -> x.write(2, 5, 0));
         again(Roads.full(), "sheet(2, 64, 40)", x -> x.sheet(2, 64, 40));
         again(Roads.full(), "copy(2, 0, 2, 1, 39)", x -> x.copy(2, 0, 2, 1, 39));
         again(Roads.full(), "lays(0)", x -> x.lays(0));
